@@ -148,6 +148,7 @@ public final class WalkTest {
     Check.due("one", Check.STATE, walk(0, 0)::hull);
     Check.due("two", Check.STATE, walk(0, 0, 1, 1)::hull);
     Check.due("at one point", Check.STATE, walk(3, 3, 3, 3, 3, 3)::hull);
+    Check.due("sixteen at one point", Check.STATE, walk(new int[32])::hull);
     Check.due("in one line", Check.STATE, walk(-63, -63, 63, 63, 0, 0, 5, 5)::hull);
     Check.due("three", 3, walk(0, 0, 1, 0, 0, 1)::hull);
     Check.due("clockwise", 3, walk(0, 0, 0, 1, 1, 0)::hull);
