@@ -211,6 +211,8 @@ public final class Bearingrose {
    * otherwise. Doubles that no quotient of whole numbers up to 127 reaches are left out.
    */
   private static final class Angles {
+    private static final long SIGN_OF_LONG = 1L << 63;
+    private static final int SIGN_OF_INT = 1 << 31;
 
     static double bearing(int y, int x) {
       double up = valueOf(y);
@@ -296,7 +298,7 @@ public final class Bearingrose {
     }
 
     static long bits(double value) {
-      long sign = hasMinus(value) ? Long.MIN_VALUE : 0L;
+      long sign = hasMinus(value) ? SIGN_OF_LONG : 0L;
       if (value == 0.0) return sign;
       double part = value < 0.0 ? -value : value;
       long exponent = 1023L;
@@ -315,8 +317,8 @@ public final class Bearingrose {
     /** A float is a double of fewer bits, so its bits are cut from those of that double. */
     static int bitsAsFloat(double value) {
       long wide = bits((double) (float) value);
-      int sign = wide < 0L ? Integer.MIN_VALUE : 0;
-      long rest = wide & Long.MAX_VALUE;
+      int sign = wide < 0L ? SIGN_OF_INT : 0;
+      long rest = wide & ~SIGN_OF_LONG;
       if (rest == 0L) return sign;
       return sign | (int) ((rest >> 29) - ((1023L - 127L) << 23));
     }

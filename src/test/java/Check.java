@@ -8,6 +8,12 @@ final class Check {
   private static final int SHOWN = 20;
   private static int wrong = 0;
   private static long asked = 0;
+  private static String sentence = "";
+
+  /** Names the document's sentence that the answers from here on are due by. */
+  static void sentence(String words) {
+    sentence = "[" + words + "] ";
+  }
 
   static void due(String call, Object want, Call call2) {
     asked++;
@@ -19,7 +25,7 @@ final class Check {
     }
     if (!got.equals(String.valueOf(want))) {
       wrong++;
-      if (wrong <= SHOWN) System.out.println(call + " answered " + got + ", due is " + want);
+      if (wrong <= SHOWN) System.out.println(sentence + call + " answered " + got + ", due is " + want);
     }
   }
 

@@ -11,6 +11,8 @@ public final class InsideTest {
     alike();
     orderOfPlaces();
     brokenRose();
+    brokenMarks();
+    dividedPairs();
     turnsSeen();
     nearWhole();
     Check.end("InsideTest");
@@ -76,6 +78,45 @@ public final class InsideTest {
       double[] angles = (double[]) field(field(r, "rose"), "angles");
       angles[broken] = -1.0;
       Check.due("isTrue with a wrong angle at " + broken, false, r::isTrue);
+    }
+  }
+
+  /** Numbers that mark() refuses: the class takes their mirror or their part for a nought. */
+  private static void brokenMarks() throws ReflectiveOperationException {
+    int[][] wrong = {{-128, 5}, {256, 2}, {5, 128}};
+    String[] names = {"not mirrored", "not reduced", "not a quotient's"};
+    for (int kind = 0; kind < 3; kind++) {
+      for (int place = 0; place < 3; place++) {
+        Bearingrose r = new Bearingrose();
+        for (int i = 0; i < 3; i++) r.mark(i, 7);
+        Check.due("isTrue of good marks", true, r::isTrue);
+        Object rose = field(r, "rose");
+        ((int[]) field(rose, "ys"))[place] = wrong[kind][0];
+        ((int[]) field(rose, "xs"))[place] = wrong[kind][1];
+        Check.due("isTrue, mark " + place + " " + names[kind], false, r::isTrue);
+      }
+    }
+  }
+
+  private static void dividedPairs() throws ReflectiveOperationException {
+    Method divisor = inside("Angles", "commonDivisor", int.class, int.class);
+    Method divided = inside("Angles", "divided", int.class, int.class);
+    for (int y = -127; y <= 128; y++) {
+      for (int x = -127; x <= 128; x++) {
+        if (Model.isNought(y) && Model.isNought(x)) continue;
+        int found = (int) divisor.invoke(null, y, x);
+        int up = (int) divided.invoke(null, y, found);
+        int right = (int) divided.invoke(null, x, found);
+        String pair = "(" + y + ", " + x + ") by " + found + " is (" + up + ", " + right + ")";
+        Check.holds(pair + ", a nought stays as it is",
+            Model.isNought(y) ? up == y : Model.isNought(x) ? right == x : true);
+        Check.holds(pair + ", the other number becomes 1 or -1",
+            Model.isNought(y) ? Math.abs(right) == 1 : Model.isNought(x) ? Math.abs(up) == 1 : true);
+        if (Model.isNought(y) || Model.isNought(x)) continue;
+        Check.holds(pair + ", one direction", up * found == y && right * found == x && found > 0);
+        Check.due(pair + ", divided as far as may be", 1,
+            () -> java.math.BigInteger.valueOf(up).gcd(java.math.BigInteger.valueOf(right)).intValue());
+      }
     }
   }
 
