@@ -106,7 +106,7 @@ public final class RandomRunsTest {
   }
 
   private void ask() {
-    switch (random.nextInt(11)) {
+    switch (random.nextInt(13)) {
       case 0: askPlace(); break;
       case 1: Check.due(run + "marks()", model.marks.size(), rose::marks); break;
       case 2: askSector(); break;
@@ -117,8 +117,61 @@ public final class RandomRunsTest {
       case 7: Check.due(run + "turning()", orState(model.turning()), rose::turning); break;
       case 8: askHull(); break;
       case 9: askHullCorner(); break;
+      case 10: askPair(); break;
+      case 11: askOrder(); break;
       default: Check.due(run + "isTrue()", true, rose::isTrue); break;
     }
+  }
+
+  /** Numbers of pairs, noughts of both signs and wrong ones among them. */
+  private int numberOfPair() {
+    int kind = random.nextInt(8);
+    return kind == 0 ? 0 : kind == 1 ? 128 : kind == 2 ? random.nextInt(600) - 300 : number(127);
+  }
+
+  private static boolean isPair(int y, int x) {
+    boolean isInRange = y >= -127 && y <= 128 && x >= -127 && x <= 128;
+    return isInRange && !(Model.isNought(y) && Model.isNought(x));
+  }
+
+  private void askPair() {
+    int y = numberOfPair();
+    int x = numberOfPair();
+    String pair = "(" + y + ", " + x + ")";
+    boolean isPair = isPair(y, x);
+    double angle = isPair ? Model.angle(y, x) : 0;
+    boolean isAxis = Model.isNought(y) || Model.isNought(x);
+    Object axis = isAxis ? Double.doubleToLongBits(angle) : Check.STATE;
+    Object quotient = Model.value(x) > 0 ? true : Check.STATE;
+    int single = Float.floatToIntBits((float) angle);
+    switch (random.nextInt(7)) {
+      case 0: asked("angle" + pair, isPair, Model.units(angle), () -> rose.angle(y, x)); break;
+      case 1: asked("floatBits" + pair, isPair, single, () -> rose.floatBits(y, x)); break;
+      case 2: asked("axisBits" + pair, isPair, axis, () -> rose.axisBits(y, x)); break;
+      case 3: asked("quarter" + pair, isPair, quarter(angle), () -> rose.quarter(y, x)); break;
+      case 4: asked("isMirrored" + pair, isPair, true, () -> rose.isMirrored(y, x)); break;
+      case 5: asked("isQuotient" + pair, isPair, quotient, () -> rose.isQuotient(y, x)); break;
+      default: asked("isReduced" + pair, isPair, true, () -> rose.isReduced(y, x)); break;
+    }
+  }
+
+  private void askOrder() {
+    int y = numberOfPair();
+    int x = numberOfPair();
+    int v = numberOfPair();
+    int u = numberOfPair();
+    boolean arePairs = isPair(y, x) && isPair(v, u);
+    // a nought added takes the sign from a nought, so that both are one
+    int want = arePairs ? Double.compare(Model.angle(y, x) + 0.0, Model.angle(v, u) + 0.0) : 0;
+    asked("order(" + y + ", " + x + ", " + v + ", " + u + ")", arePairs, want, () -> rose.order(y, x, v, u));
+  }
+
+  private static int quarter(double angle) {
+    return angle >= 0 ? (int) (angle / (Math.PI / 2)) : angle < -Math.PI / 2 ? 2 : 3;
+  }
+
+  private void asked(String call, boolean isPair, Object want, Check.Call asked) {
+    Check.due(run + call, isPair ? want : Check.BAD, asked);
   }
 
   private static Object orState(Object answer) {
